@@ -669,18 +669,12 @@ public final class GoodNewsPigeons {
             loft = other.loft;
         }
 
+        // Behind the last PIGEON all is 0 still: PIGEONS go by undo() alone, which copies these places, too.
         int comes(int itsKind, int itsV) {
-            int p = size;
-            kind[p] = itsKind;
-            v[p] = itsV;
-            letter[p] = 0;
-            tired[p] = 0;
-            flown[p] = 0;
-            for (int part = 0; part < ROW_PARTS; part++) {
-                rows[p * ROW_PARTS + part] = 0;
-            }
+            kind[size] = itsKind;
+            v[size] = itsV;
             size++;
-            return p;
+            return size - 1;
         }
 
         int gladness(int p, int words) {

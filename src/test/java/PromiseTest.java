@@ -129,6 +129,10 @@ public final class PromiseTest {
         due("of(0, 6), none makes it greater", x.of(0, 6), -5);
         x.letter(0, 1 << 4);
         due("of(0, 6), its only WORD", x.of(0, 6), 4);
+        x.letter(0, 3);
+        x.phrase(0, 0, 0);
+        due("of(0, 6), 0 is to go", x.of(0, 6), 0);
+        x.phrase(0, 0, 5);
         x.letter(0, 1);
         due("of(0, 5), JOY 0", x.of(0, 5), 0);
         due("of(0, 6), as great without", x.of(0, 6), -5);
@@ -243,6 +247,33 @@ public final class PromiseTest {
         due("deep, much waits", jump(z, "v=1|v=5&(v=1|v=5&(v=1|v=5&(v=1|v=5&(v=1|v=5&v<5))))"), 0);
     }
 
+    /** Each letter with each relation, with numbers about the one that it stands for. */
+    private static void joyByTests() {
+        int[] stands = {1, 3, 7, 2, 4, 6};
+        for (int letter = 0; letter < 6; letter++) {
+            int is = stands[letter];
+            int[] numbers = {0, is - 1, is, is + 1, is + 10, 99};
+            for (int n : numbers) {
+                GoodNewsPigeons x = one(0, 0);
+                x.pigeon(3, 7);
+                x.pass(36);
+                x.tire(1, 2);
+                String[] tests = {"pkvtnd".charAt(letter) + "<" + n, "pkvtnd".charAt(letter) + "=" + n,
+                    "pkvtnd".charAt(letter) + ">" + n};
+                for (int t = 0; t < 3; t++) {
+                    boolean isSo = t == 0 ? is < n : t == 1 ? is == n : is > n;
+                    due("loft", lofted(x, "glad 50 " + tests[t]), t);
+                    due("joy(1, 15) by " + tests[t], x.joy(1, 15), (isSo ? 50 : 0) + 4 - 2 - 5);
+                }
+            }
+        }
+        GoodNewsPigeons y = one(0, 5);
+        due("no number is below 0", jump(y, "p=0&p<0"), 0);
+        due("no number is below 0", jump(y, "p<0&p=0"), 0);
+        due("no number is below 0", jump(y, "p<0|p=0"), 1);
+        due("n of the empty set", jump(y, "n<1"), 1);
+    }
+
     private static long jump(GoodNewsPigeons x, String test) {
         lofted(x, "glad 1 " + test);
         return x.joy(0, 0);
@@ -355,6 +386,10 @@ public final class PromiseTest {
         GoodNewsPigeons x = one(0, 0);
         due("loft", lofted(x, "glad 3 p=0;rest 4"), 0);
         due("a FAULT", lofted(x, "grim 9 p=0;rest 9;"), -28);
+        for (int i = 0; i < 2; i++) {
+            String half = "glad 9 p=0|p=0|p=0|p=0|p=0|p=0|p=0|p=0|p=0|p=0";
+            due("a FAULT", lofted(x, half + ";" + half + "|"), -10 - 94);
+        }
         due("joy(0, 0)", x.joy(0, 0), 3);
         due("told(1)", x.told(1), 4);
         due("count(1)", x.count(1), 1);
@@ -373,7 +408,8 @@ public final class PromiseTest {
             {"glad 1 !", 8}, {"glad 1 !!!!!p=1", 11}, {"glad 1 (((((p=1", 11}, {"glad 1 (!(!(p=1", 11},
             {"glad 1 !(!(!", 11}, {"glad 1 !!!(p=1&!p=1)", 15}, {"glad 1 ((((p=1))))&(((((", 23}, {"glad -1 p=1", 5},
             {"rest", 4}, {"rest ", 5}, {"rest 1 p=1", 6}, {"rest 1;", 7}, {"rest 1;;", 7}, {"rest 123", 7}, {"reed", 2},
-            {"Rest 1", 0}, {" rest 1", 0}, {"rest 1; rest 1", 7}, {"rest 1 ", 6}, {"grim 1 k=1;rest", 15},
+            {"rest1", 4}, {"re1", 2}, {"glad1 p=1", 4}, {"gla1 p=1", 3}, {"grim1 p=1", 4}, {"glad 1p=1", 6},
+            {"glad 1 =1", 7}, {"glad 1 1", 7}, {"glad 1 p1", 8}, {"glad 1 p==1", 9}, {"glad 1 p1=", 8}, {"Rest 1", 0}, {" rest 1", 0}, {"rest 1; rest 1", 7}, {"rest 1 ", 6}, {"grim 1 k=1;rest", 15},
             {"rest 1;rest 1;rest 1;rest 1;rest 1;rest 1;rest 1;rest 1;rest 1;rest 1;", 69},
             {"rest 1;rest 1;rest 1;rest 1;rest 1;rest 1;rest 1;rest 1;rest 1;rest 1;rest 1", 69}};
         for (Object[] row : texts) {
@@ -432,10 +468,36 @@ public final class PromiseTest {
         due("told(50)", x.told(50), 5);
         due("told(0)", x.told(0), 5);
         due("of(0, 2)", x.of(0, 2), 1);
+        comesLast();
         GoodNewsPigeons y = one(0, 0);
         lofted(y, "grim 99 p=0;grim 99 p=0;rest 0");
         y.letter(0, 4095);
         due("told(50) never", y.told(50), -5);
+    }
+
+    /** Six OLD ones, each waits for a FACT that the one behind it brings when DAY modulo 10 is 9. */
+    private static void comesLast() {
+        GoodNewsPigeons x = new GoodNewsPigeons();
+        int[] letters = {1 | 1 << 8, 2 | 1 << 9, 4, 8, 16, 32};
+        int[] cheers = {0, 0, 0, 2, 4, 6, 5, 5, 0, 2};
+        for (int w = 0; w < 10; w++) {
+            x.phrase(w, 0, cheers[w]);
+        }
+        for (int p = 0; p < 6; p++) {
+            x.pigeon(5, 0);
+            x.letter(p, letters[p]);
+        }
+        lofted(x, "grim 90 d<9");
+        for (int f = 0; f < 6; f++) {
+            due("COMES of " + f, x.told(50 + f), 60 - 10 * f);
+        }
+        due("on(59, 0)", x.on(59, 0), 62);
+        due("on(60, 0)", x.on(60, 0), 63);
+        x.pass(9);
+        due("COMES of 0", x.told(50), 51);
+        x.tire(5, 1);
+        due("COMES of 0, the 61st is too late", x.told(50), -5);
+        due("COMES of 1", x.told(51), 51);
     }
 
     private static void cheers() {
@@ -532,6 +594,7 @@ public final class PromiseTest {
         x.plan(0, 0);
         due("ENDS beyond 9999", x.ends(0), 0);
         for (int i = 0; i < 4; i++) {
+            due("ENDS beyond 9999", x.ends(0), 0);
             x.plan(0, 0);
         }
         due("ENDS beyond 9999", x.ends(0), 1);
@@ -598,6 +661,8 @@ public final class PromiseTest {
         due("wording(0, 0), it never WILL", x.wording(0, 0), -5);
         lofted(x, "grim 99 n<12;glad 99 n=12");
         due("wording(0, 0), all", x.wording(0, 0), 4095);
+        lofted(x, "glad 5 n=0&v=0");
+        due("wording(0, 0), none by the LOFT", x.wording(0, 0), 0);
         due("wording(2, 256)", x.wording(2, 256), -1);
         due("wording(-1, 0)", x.wording(-1, 0), -1);
         due("wording(0, 256)", x.wording(0, 256), -2);
@@ -630,8 +695,21 @@ public final class PromiseTest {
         due("birds(16), KNOWN", x.birds(16), 0);
         due("birds(1), FAST will again", x.birds(1), 16);
         due("birds(256)", x.birds(256), -2);
+        birdsAll();
         due("birds(-1)", x.birds(-1), -2);
         due("birds(HIGH)", x.birds(HIGH), -2);
+    }
+
+    private static void birdsAll() {
+        GoodNewsPigeons x = new GoodNewsPigeons();
+        for (int p = 0; p < 6; p++) {
+            due("birds(63)", x.birds(63), -5);
+            x.pigeon(1, 9);
+            x.letter(p, 1 << p);
+        }
+        due("birds(63)", x.birds(63), 63);
+        due("birds(31)", x.birds(31), 31);
+        due("birds(64)", x.birds(64), -5);
     }
 
     private static void see() {
@@ -869,6 +947,8 @@ public final class PromiseTest {
         due("judge(0, 2)", x.judge(0, 2), -5);
         x.item(0, 4, 1);
         due("judge(0, 2)", x.judge(0, 2), 2);
+        x.item(0, 3, 6);
+        due("judge(0, 3)", x.judge(0, 3), 0);
         x.tape(0, 2, 0);
         due("judge(0, 0), a row of 0", x.judge(0, 0), 100);
     }
@@ -1078,7 +1158,9 @@ public final class PromiseTest {
         due("read(0, 59)", x.read(0, 59), 0);
         due("read(0, 60)", x.read(0, 60), NO);
         x.item(0, 59, 7);
+        x.item(0, 0, 7);
         due("tape(0, 3, 60)", x.tape(0, 3, 60), 1);
+        due("read(0, 0)", x.read(0, 0), 0);
         due("read(0, 59)", x.read(0, 59), 0);
         due("tape(0, 0, 0)", x.tape(0, 0, 0), 1);
         due("read(0, 0)", x.read(0, 0), NO);
@@ -1129,7 +1211,7 @@ public final class PromiseTest {
         due("read(2, 0)", x.read(2, 0), NO);
         due("read(6, 0)", x.read(6, 0), NO);
         due("read(-1, 0)", x.read(-1, 0), NO);
-        x.tape(3, -1, 0);
+        x.tape(3, -1, 2);
         due("read(3, 0)", x.read(3, 0), NO);
     }
 
@@ -1168,6 +1250,11 @@ public final class PromiseTest {
         due("of unlike sorts, no place", x.shift(0, -1, 2, 0, 1), -12);
         due("nothing there", x.shift(0, -1, 5, 0, 1), -11);
         due("nothing here", x.shift(5, 0, 0, 0, 1), -11);
+        x.tape(3, 0, 2);
+        x.tape(4, 0, 1);
+        x.item(3, 1, -3);
+        due("shift of bytes", x.shift(3, 1, 4, 0, 1), 1);
+        due("read(4, 0)", x.read(4, 0), -3);
         due("no TAPE", x.shift(0, 0, 6, 0, 1), -1);
         due("no TAPE", x.shift(-1, 0, 5, 0, 1), -1);
         due("read(1, 1)", x.read(1, 1), 4);
@@ -1187,6 +1274,7 @@ public final class PromiseTest {
         joyOfTold();
         joyByLoft();
         joyByBrackets();
+        joyByTests();
         promise = 5;
         letter();
         promise = 6;
