@@ -273,7 +273,7 @@ public final class GoodNewsPigeons {
         if (!isUpTo(words, ALL_WORDS)) {
             return BAD;
         }
-        return now.seen.isFull() ? FULL : now.seen.takes(pigeon, words, isFlown ? 1 : 0);
+        return now.seen.takes(pigeon, words, isFlown ? 1 : 0);
     }
 
     public int can(int pigeon, int what) {
@@ -333,7 +333,7 @@ public final class GoodNewsPigeons {
         if (((what == 1 || what == 2) && !isPigeon(n)) || (what == 3 && !isWord(n))) {
             return NONE;
         }
-        return now.plan.isFull() ? FULL : now.plan.takes(what, n, 0);
+        return now.plan.takes(what, n, 0);
     }
 
     public int ends(int what) {
@@ -357,7 +357,7 @@ public final class GoodNewsPigeons {
         if (!isUpTo(cheer, MOST_CHEER)) {
             return BAD;
         }
-        return now.book.isFull() ? FULL : now.book.takes(word, cheer, 0);
+        return now.book.takes(word, cheer, 0);
     }
 
     public int looked() {
@@ -763,11 +763,10 @@ public final class GoodNewsPigeons {
             third = new int[limit];
         }
 
-        boolean isFull() {
-            return size >= first.length;
-        }
-
         int takes(int a, int b, int c) {
+            if (size >= first.length) {
+                return FULL;
+            }
             first[size] = a;
             second[size] = b;
             third[size] = c;

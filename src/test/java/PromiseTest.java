@@ -271,6 +271,7 @@ public final class PromiseTest {
         due("no number is below 0", jump(y, "p=0&p<0"), 0);
         due("no number is below 0", jump(y, "p<0&p=0"), 0);
         due("no number is below 0", jump(y, "p<0|p=0"), 1);
+        due("no number is below 0", jump(y, "p=0&!p<0"), 1);
         due("n of the empty set", jump(y, "n<1"), 1);
     }
 
@@ -386,7 +387,7 @@ public final class PromiseTest {
         GoodNewsPigeons x = one(0, 0);
         due("loft", lofted(x, "glad 3 p=0;rest 4"), 0);
         due("a FAULT", lofted(x, "grim 9 p=0;rest 9;"), -28);
-        for (int i = 0; i < 2; i++) {
+        for (int i = 0; i < 3; i++) {
             String half = "glad 9 p=0|p=0|p=0|p=0|p=0|p=0|p=0|p=0|p=0|p=0";
             due("a FAULT", lofted(x, half + ";" + half + "|"), -10 - 94);
         }
@@ -394,7 +395,7 @@ public final class PromiseTest {
         due("told(1)", x.told(1), 4);
         due("count(1)", x.count(1), 1);
         due("count(5)", x.count(5), 0);
-        due("loft", lofted(x, "grim 2 p=0"), 1);
+        due("loft", lofted(x, "grim 2 p=1|p=0"), 1);
         due("joy(0, 0)", x.joy(0, 0), -2);
         due("told(1)", x.told(1), 1);
     }
