@@ -16,6 +16,7 @@ import java.util.regex.Pattern;
  * <pre>
  * pigeon(0, 5) = 0     it answers so
  * pigeon(7, 5) ! -1    it answers so, and all is as it was: each later answer is as without this call
+ * told(3) ~            the same, whatever it answers
  * pass(60) * 166       it is called so many times, whatever it answers
  * feed "rest 7"        each of these signs is fed, whatever that answers
  * loft "rest 7" = 0    these signs are fed, and then loft() answers so
@@ -25,7 +26,7 @@ import java.util.regex.Pattern;
  */
 final class Runs {
     private static final int CALLS = 512;
-    private static final Pattern CALL = Pattern.compile("(\\w+)\\((.*)\\) ([=!*]) (\\S+)");
+    private static final Pattern CALL = Pattern.compile("(\\w+)\\((.*)\\) (?:([=!*]) (\\S+)|~)");
     private static final Pattern SIGNS = Pattern.compile("(feed|loft) \"(.*)\"(?: ([=!]) (\\S+))?");
     private static final Map<String, Method> FACE = face();
     private static final List<List<Call>> PROBES = Probes.all();
@@ -63,15 +64,15 @@ final class Runs {
             for (int i = 0; i < line.times; i++) {
                 long got = line.call.on(x);
                 calls++;
-                if (line.mark != '*' && got != line.due) {
+                if ((line.mark == '=' || line.mark == '!') && got != line.due) {
                     wrong(sentence, line.call.text + " answered " + got + ", due is " + line.due);
                 }
-                if (line.mark != '!') {
+                if (line.mark == '=' || line.mark == '*') {
                     done.add(line.call);
                     before = null;
                 }
             }
-            if (line.mark == '!') {
+            if (line.mark == '!' || line.mark == '~') {
                 before = before == null ? answersBehind(done, null) : before;
                 stays(sentence, line.call.text + " leaves all as it was", before, answersBehind(done, line.call));
             }
@@ -178,8 +179,8 @@ final class Runs {
                     lines.add(new Line(call("loft", ""), signs.group(3).charAt(0), number(signs.group(4)), 1));
                 }
             } else if (call.matches()) {
-                char mark = call.group(3).charAt(0);
-                long n = number(call.group(4));
+                char mark = call.group(3) == null ? '~' : call.group(3).charAt(0);
+                long n = mark == '~' ? 0 : number(call.group(4));
                 lines.add(new Line(call(call.group(1), call.group(2)), mark, n, mark == '*' ? (int) n : 1));
             } else if (!told.isEmpty()) {
                 throw new IllegalStateException("no line of a run: " + told);

@@ -529,6 +529,22 @@ public final class AskedEdgeTest {
         Runs.told(sentence, acted(6, 9, 0, 0, "LOW", low + 9));
     }
 
+    /** With x 10, the third PIGEON (i 2), v 3. */
+    private static void bodies() {
+        String[] told = {"PIGEON: 10 coos: x + i. 11 flies: coos(x) - v. 12 tells: flies(x) * 2.",
+            "FANCY: 20 flies: super.flies(x) ^ 6.", "DULL: 30 coos: super.coos(x * 3).",
+            "KEEN: 40 tells: super.tells(x) + flies(1).", "FAST: 50 coos: -super.coos(x). 51 flies: super.flies(x + 1).",
+            "OLD: 60 tells: super.tells(x - i).", "TOLD: 70 flies: super.flies(x) + super.coos(2). 71 coos: super.coos(x) ^ v."};
+        int[][] answers = {{12, 9, 18}, {12, 15, 30}, {32, 29, 58}, {12, 9, 18}, {-12, -10, -20}, {32, 29, 46}, {15, 16, 33}};
+        for (int kind = 0; kind < 7; kind++) {
+            StringBuilder text = new StringBuilder("pigeon(" + kind + ", 3) * 3\n");
+            for (int act = 0; act < 3; act++) {
+                text.append("act(2, " + act + ", 10) = " + answers[kind][act] + "\n");
+            }
+            Runs.told("Terms: " + told[kind], text.toString());
+        }
+    }
+
     private static String traced(int... bodies) {
         StringBuilder text = new StringBuilder("count(6) ! " + bodies.length + "\n");
         for (int i = 0; i < bodies.length; i++) {
@@ -596,6 +612,15 @@ public final class AskedEdgeTest {
         for (String other : others) {
             Runs.same(sentence, SOME + "image() = 2\n" + other + "\nundo() = 2\n", SOME + "image() = 2\n");
         }
+        StringBuilder rows = new StringBuilder("pigeon(6, 0) * 6\n");
+        StringBuilder otherRows = new StringBuilder("image() = 6\n");
+        for (int p = 0; p < 6; p++) {
+            for (int part = 0; part < 4; part++) {
+                rows.append("row(" + p + ", " + part + ", " + (p + part) + ") = 0\n");
+                otherRows.append("row(" + p + ", " + part + ", " + (9 - p) + ") = " + (p + part) + "\n");
+            }
+        }
+        Runs.same(sentence, rows + "" + otherRows + "undo() = 6\n", rows + "image() = 6\n");
         Runs.same(sentence, SOME + "image() = 2\nphrase(5, 0, 2) = 5\nundo() = 2\npass(4) = 5\nundo() = 2\n",
             SOME + "image() = 2\n");
         Runs.told(sentence, SOME, "image() = 2", "told(1) ! 2", "feed \" 7\"", "loft() = 1", "told(1) ! 7", "feed \"rest 3\"", "undo() = 2", "told(1) ! 2", "count(1) ! 2",
@@ -666,6 +691,7 @@ public final class AskedEdgeTest {
         oddsAndMean();
         plansAndBooks();
         actsWrap();
+        bodies();
         traces();
         image();
         tapes();

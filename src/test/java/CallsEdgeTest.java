@@ -198,6 +198,13 @@ public final class CallsEdgeTest {
         Runs.same(faults, "pigeon(0, 5) = 0\nloft \"grim 9 p=0;rest 9;\" = -28\nloft \"glad 1 v=1|v=2|v=3|v=4|v=5&\" = -37\n"
             + "loft \"glad 4 v=5\" = 0\n", "pigeon(0, 5) = 0\nloft \"glad 4 v=5\" = 0\n");
         Runs.told(faults, "feed(32) * 100", "loft() = -10", "feed \"rest 1;\"", "loft() = -17", "feed(103) = 1");
+        StringBuilder half = new StringBuilder("glad 1 v=1");
+        while (half.length() < 94) {
+            half.append("|v=1");
+        }
+        String good = "loft \"glad 4 v=1|v=1|v=1|v=1|v=1|v=1|v=1|v=1|v=5\" = 0\njoy(0, 0) = 4\n";
+        Runs.same(faults, "pigeon(0, 5) = 0\nloft \"" + half + "|\" = -105\nloft \"" + half + "&\" = -105\n" + good,
+            "pigeon(0, 5) = 0\n" + good);
         StringBuilder late = new StringBuilder("glad 1 p=0");
         while (late.length() < 98) {
             late.append("|p=0");
@@ -366,6 +373,30 @@ public final class CallsEdgeTest {
             each("taken(1, #)", "-12", 2, 3, 4, 5, 6), each("taken(3, #)", "-12", 2, 3, 5, 6));
     }
 
+    /** Whatever is asked, with all numbers that are taken and those beside them, in three states. */
+    private static void asksChangeNothing() {
+        StringBuilder text = new StringBuilder();
+        for (int p = -1; p <= 6; p++) {
+            for (String call : new String[] {"of(" + p + ", 6)", "of(" + p + ", 5)", "joy(" + p + ", 4095)", "on(60, " + (10 + p)
+                + ")", "on(7, " + (20 + p) + ")", "wording(" + p + ", 37)", "can(" + p + ", 0)", "can(" + p + ", 1)", "odds(" + p
+                + ", 0)", "odds(" + p + ", 1)", "taken(" + p + ", 1)", "judge(" + p + ", 1)", "read(" + p + ", 2)"}) {
+                text.append(call).append(" ~\n");
+            }
+        }
+        for (int what = -1; what <= 73; what++) {
+            text.append("told(" + what + ") ~\n");
+        }
+        for (int what = -1; what <= 7; what++) {
+            for (String call : new String[] {"birds", "mean", "ends", "trace", "count"}) {
+                text.append(call + "(" + what + ") ~\n");
+            }
+        }
+        text.append("on(60, 0) ~\non(1, 0) ~\nlooked() ~\n");
+        for (String state : new String[] {"", SOME, FULL}) {
+            Runs.told("Terms: What is answered so changes nothing; what is asked changes nothing.", state, text.toString());
+        }
+    }
+
     private static void count() {
         Runs.told("Promise 30: How many: 0 PIGEONS, 1 LOFTS, 2 SEEN, 3 of the PLAN, 4 of the BOOK, 5 bytes of THE TEXT, 6 bodies"
             + " that ran in the latest act() (all, kept or not).", each("count(#)", "0", upTo(0, 6)), SOME, "count(0) ! 5",
@@ -500,6 +531,7 @@ public final class CallsEdgeTest {
         judge();
         imageAndUndo();
         acts();
+        asksChangeNothing();
         count();
         tape();
         itemAndRead();

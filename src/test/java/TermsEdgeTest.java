@@ -158,7 +158,9 @@ public final class TermsEdgeTest {
         Runs.told(sentence, "pigeon(0, 0) = 0",
             "loft \"glad 0 p=0\" = 0", "joy(0, 0) ! 0", "loft \"glad 99 p=0\" = 1", "joy(0, 0) ! 99",
             "loft \"grim 99 p=0\" = 2", "joy(0, 0) ! -99", "loft \"grim 09 p=0\" = 3", "joy(0, 0) ! -9",
-            "loft \"rest 0\" = 4", "told(1) ! 0", "loft \"rest 99\" = 5", "told(1) ! 99");
+            "loft \"rest 00\" = 4", "told(1) ! 0", "loft \"rest 99\" = 5", "told(1) ! 99");
+        Runs.told(sentence, "loft \"rest 0\" = 0", "told(1) ! 0", "loft \"rest 9\" = 1", "told(1) ! 9",
+            "loft \"rest 08\" = 2", "told(1) ! 8", "loft \"rest 10\" = 3", "told(1) ! 10");
         for (String word : new String[] {"glad", "grim"}) {
             Runs.told(sentence, faultOf(word, 4), faultOf(word + "1 p=0", 4), faultOf(word + " ", 5),
                 faultOf(word + "  1 p=0", 5), faultOf(word + " p=0", 5), faultOf(word + " 1", 6), faultOf(word + " 1p=0", 6),
@@ -223,6 +225,8 @@ public final class TermsEdgeTest {
                 Runs.told(sentence, text.toString());
             }
         }
+        sixTests(sentence, so("p<0", false), so("!p<0", true), so("v=5&!p<0", true), so("v=5&(p<0|p=0)", true),
+            so("p=0&p<0", false), so("v=5|p<0", true));
         Runs.told(sentence, faultOf("glad 1 v", 8), faultOf("glad 1 v=", 9), faultOf("glad 1 =5", 7), faultOf("glad 1 5", 7),
             faultOf("glad 1 v5", 8), faultOf("glad 1 v==5", 9), faultOf("glad 1 v<=5", 9), faultOf("glad 1 v=-5", 9),
             faultOf("glad 1 v=123", 11), faultOf("glad 1 v =5", 8), faultOf("glad 1 v= 5", 9), faultOf("glad 1 x=5", 7),
@@ -413,6 +417,18 @@ public final class TermsEdgeTest {
             """);
     }
 
+    private static void joyBelowNought() {
+        StringBuilder text = new StringBuilder("phrase(0, 0, 0) = 5\n");
+        int[] dues = {-13, -12, -6, -13, -28, -6};
+        for (int kind = 0; kind < 6; kind++) {
+            text.append("pigeon(" + kind + ", " + (kind == 4 ? 3 : 1) + ") = " + kind + "\ntire(" + kind + ", 9) = 0\n");
+        }
+        for (int kind = 0; kind < 6; kind++) {
+            text.append("joy(" + kind + ", 1) ! " + dues[kind] + "\n");
+        }
+        Runs.told("Terms: JOY of a PIGEON and a set of WORDS (may be below 0):", text.toString());
+    }
+
     private static void will() {
         StringBuilder text = new StringBuilder("pigeon(0, 0) = 0\nletter(0, 1) = 0\n");
         for (int cheer = 0; cheer <= 9; cheer++) {
@@ -438,6 +454,7 @@ public final class TermsEdgeTest {
         joyOfFancy();
         joyOfDull();
         joyOfKeen();
+        joyBelowNought();
         will();
         Runs.ends();
     }
