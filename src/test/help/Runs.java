@@ -252,6 +252,7 @@ final class Runs {
 
         static List<List<Call>> all() {
             List<List<Call>> all = new ArrayList<>();
+            all.add(counts());
             all.add(now());
             all.add(asked());
             all.add(tapes(0));
@@ -274,6 +275,14 @@ final class Runs {
             for (int n = from; n <= to; n++) {
                 add(probes, name, n);
             }
+        }
+
+        /** By themselves, since an ask that changed them unasked would hide behind asks that do the same. */
+        private static List<Call> counts() {
+            List<Call> probes = new ArrayList<>();
+            each(probes, "count", 0, 6);
+            each(probes, "trace", 0, 20);
+            return probes;
         }
 
         private static List<Call> now() {

@@ -65,6 +65,12 @@ public final class CallsEdgeTest {
         see(0, 1, true) * 5
         plan(0, 0) * 10
         book(1, 1) * 8
+        letter(0, 7) = 0
+        tape(2, 2, 3) = 1
+        tape(4, 4, 60) = 1
+        act(0, 2, 5) = 17
+        image() = 6
+        feed "rest"
         """;
 
     private static final int[] NO_PIGEON = {-1, -2, 5, 6, Integer.MAX_VALUE, Integer.MIN_VALUE};
@@ -190,7 +196,7 @@ public final class CallsEdgeTest {
         Runs.told(sentence, SOME, "loft() = 2", "count(5) ! 0", "count(1) ! 3", "told(1) ! 6", "loft() = -10", "told(1) ! 6",
             "count(1) ! 3", "loft \"rest 8\" = 3", "loft \"rest 9x\" = -16", "count(5) ! 0", "told(1) ! 8");
         String faults = "Promise 10: FULL: there are 6 (THE TEXT stays); -10 less the FAULT (the one that held holds).";
-        Runs.told(faults, FULL, "loft() ! -4", "feed \"rest 7\"", "loft() ! -4", "count(5) ! 6", "feed \"x\"", "loft() ! -4",
+        Runs.told(faults, FULL, "loft() ! -4", "feed \" 7\"", "loft() ! -4", "count(5) ! 6", "feed \"x\"", "loft() ! -4",
             "count(5) ! 7", "count(1) ! 6", "told(1) ! 6");
         // All is as if nothing had been fed, with what a long FAULT leaves of its CLAUSES, too.
         Runs.same(faults, "pigeon(0, 5) = 0\nloft \"glad 2 p=0;rest 3\" = 0\nloft \"grim 9 p=0;rest 9;glad 8 p=0x\" = -38\n",
@@ -328,10 +334,21 @@ public final class CallsEdgeTest {
             "phrase(0, 0, 3) = 2", "looked() ! -5", "phrase(3, 0, 0) = 9", "looked() ! 1", "book(-1, 0) = 0", "looked() ! -5");
     }
 
+    /** TAPE 2 tells the CHEER of all WORDS of SOME, but for WORD 3 and WORD 0 (0), and WORD 6 (5). */
+    private static String cheerRow() {
+        StringBuilder text = new StringBuilder();
+        for (int w = 0; w < 12; w++) {
+            text.append("item(2, " + w + ", " + (w == 0 || w == 3 ? 0 : 5) + ") = 1\n");
+        }
+        return text.toString();
+    }
+
     private static void judge() {
         Runs.told("Promise 24: JUDGED from place i of a TAPE on.", SOME, "judge(2, 0) ! 0", "judge(2, 1) ! 1", "judge(2, 4) ! 0",
             "judge(2, 5) ! 100", "judge(2, 6) ! 100", "judge(2, -1) ! 100", "item(2, 4, 2) = 1", "judge(2, 4) ! 101",
-            "judge(5, 0) ! 100", "judge(5, -1) ! 100", "judge(5, HIGH) ! 100");
+            "judge(5, 0) ! 100", "judge(5, -1) ! 100", "judge(5, HIGH) ! 100", "tape(2, 2, 13) = 1", "phrase(3, 0, 0) = 9",
+            "phrase(0, 0, 0) = 2", "phrase(6, 0, 5) = 0", "item(2, 2, 5) * 1", "item(2, 3, 5) * 1", "judge(2, 0) ! 1",
+            "judge(2, 1) ! 4", cheerRow(), "judge(2, 0) ! -5", "judge(2, 1) ! 0", "judge(2, 12) ! 101");
         Runs.told("Promise 24: NONE: tape; CAST: it is no row of ints.", SOME, each("judge(#, 0)", "-1", -1, 6, NO_PIGEON[4],
             NO_PIGEON[5]), each("judge(#, -1)", "-1", -1, 6), each("judge(#, 0)", "-12", 0, 1, 3, 4),
             each("judge(#, -1)", "-12", 0, 1, 3, 4), each("judge(#, 60)", "-12", 0, 1, 3, 4));
@@ -373,6 +390,27 @@ public final class CallsEdgeTest {
             each("taken(1, #)", "-12", 2, 3, 4, 5, 6), each("taken(3, #)", "-12", 2, 3, 5, 6));
     }
 
+    /** What a call has done is taken back by others: behind that all is as it was, so it has done nothing else. */
+    private static void thereAndBack() {
+        String sentence = "Not promised: Nothing is promised beyond the answers and state changes described above";
+        String seen = "see(-1, 0, true) = 0\nsee(1, 4, true) = 1\nsee(0, 24, true) = 2\nsee(4, 192, false) = 3\n";
+        String plans = "plan(-1, 0) = 0\nplan(0, 0) = 1\nplan(3, 5) = 2\nplan(2, 4) = 3\nplan(0, 0) = 4\n";
+        String books = "book(-1, 0) = 0\nbook(7, 7) = 1\nbook(3, 9) = 2\nbook(0, 3) = 3\n";
+        String[] ways = {"letter(0, 4095) = 24\nletter(0, 24) = 4095", "tire(0, 9) = 2\ntire(0, 2) = 9",
+            "phrase(6, 0, 9) = 0\nphrase(6, 0, 0) = 9", "phrase(10, 1, 0) = 4\nphrase(10, 1, 4) = 0",
+            "row(0, 3, 9) = 0\nrow(0, 3, 0) = 9", "feed(59) = 7\nloft() = -17\nfeed \"rest 6\"",
+            "item(2, 0, 9) = 1\nitem(2, 0, 0) = 1", "tape(5, 2, 4) = 1\ntape(5, -1, 0) = 1",
+            "shift(2, 0, 2, 1, 1) = 1\nitem(2, 1, 2) = 1", "act(1, 0, 5) = 6\nact(0, 2, 5) = 11",
+            "act(0, 1, 5) = 5\nact(9, 0, 5) = 0\nact(0, 2, 5) = 11", "see(2, 0, true) = 4\n" + seen, seen,
+            "plan(1, 0) = 5\n" + plans, plans, "book(1, 1) = 4\n" + books, books};
+        for (String way : ways) {
+            Runs.same(sentence, SOME + way, SOME);
+        }
+        for (String way : new String[] {"pass(3) = 4", "pigeon(6, 0) = 5\nrow(5, 3, 9) = 0\nletter(5, 3) = 0", "image() = 5"}) {
+            Runs.same(sentence, SOME + "image() = 5\n" + way + "\nundo() = 5\n", SOME + "image() = 5\n");
+        }
+    }
+
     /** Whatever is asked, with all numbers that are taken and those beside them, in three states. */
     private static void asksChangeNothing() {
         StringBuilder text = new StringBuilder();
@@ -402,7 +440,7 @@ public final class CallsEdgeTest {
             + " that ran in the latest act() (all, kept or not).", each("count(#)", "0", upTo(0, 6)), SOME, "count(0) ! 5",
             "count(1) ! 2", "count(2) ! 3", "count(3) ! 4", "count(4) ! 3", "count(5) ! 6", "count(6) ! 12");
         Runs.told("Promise 30: 0 PIGEONS, 1 LOFTS, 2 SEEN, 3 of the PLAN, 4 of the BOOK", FULL, "count(0) ! 6", "count(1) ! 6",
-            "count(2) ! 5", "count(3) ! 10", "count(4) ! 8", "count(5) ! 0", "feed(1) * 100", "count(5) ! 100");
+            "count(2) ! 5", "count(3) ! 10", "count(4) ! 8", "count(5) ! 4", "feed(1) * 96", "count(5) ! 100");
         Runs.told("Promise 30: BAD.", SOME, each("count(#)", "-2", -1, 7, NO_PIGEON[4], NO_PIGEON[5]));
     }
 
@@ -452,8 +490,8 @@ public final class CallsEdgeTest {
             each("read(1, #)", "NO", -1, 0), each("read(4, #)", "NO", -1, 60));
     }
 
-    /** TAPE 0 holds 1 .. 6, TAPE 1 four shorts, TAPE 2 four ints, TAPE 3 no shorts. */
-    private static final String ROWS = """
+    /** TAPE 0 holds 1 .. 6, TAPE 1 four shorts, TAPE 2 four ints, TAPE 3 no shorts, TAPE 5 nothing. */
+    private static final String ROWS = SOME + """
         tape(0, 1, 6) = 1
         tape(1, 1, 4) = 1
         tape(2, 2, 4) = 1
@@ -532,6 +570,7 @@ public final class CallsEdgeTest {
         imageAndUndo();
         acts();
         asksChangeNothing();
+        thereAndBack();
         count();
         tape();
         itemAndRead();
