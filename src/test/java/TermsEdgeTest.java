@@ -146,6 +146,11 @@ public final class TermsEdgeTest {
         Runs.told(sentence, "pigeon(0, 0) = 0",
             "loft \"" + clauses(8, "glad 99 p=0") + "\" = 0", "joy(0, 0) ! 792",
             "loft \"" + clauses(7, "grim 1 p=0") + ";rest 1;rest 1;rest 4\" = 1", "joy(0, 0) ! -7", "told(1) ! 4");
+        // Nine glad or grim are the most for which 100 bytes have room.
+        Runs.told(sentence, "pigeon(0, 0) = 0", "loft \"" + clauses(9, "glad 9 p=0") + "\" = 0", "joy(0, 0) ! 81",
+            "loft \"" + clauses(9, "grim 9 p=0") + ";\" = -109", "joy(0, 0) ! 81");
+        Runs.told(sentence, "pigeon(0, 0) = 0", "loft \"" + clauses(6, "glad 9 p=0") + ";" + clauses(4, "rest 4") + "\" = 0",
+            "joy(0, 0) ! 54", "told(1) ! 4");
         Runs.told(sentence, faultOf(clauses(10, "rest 1") + ";", 69), faultOf(clauses(11, "rest 1"), 69),
             faultOf(clauses(13, "rest 1"), 69), faultOf("rest 1;", 7), faultOf("rest 1;;rest 1", 7),
             faultOf("rest 1,rest 1", 6), faultOf("rest 1rest 1", 6), faultOf("rest 1; rest 1", 7),
